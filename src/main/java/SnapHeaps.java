@@ -635,7 +635,13 @@ public final class SnapHeaps {
         }
 
         boolean isOut(int player) {
-            return player < 0 || player >= players || rowOf(player).size + heapOf(player).size == 0;
+            if (player < 0 || player >= players) {
+                return true;
+            }
+            if (player == 0) {
+                return row0.size + heap0.size == 0;
+            }
+            return player == 1 ? row1.size + heap1.size == 0 : row2.size + heap2.size == 0;
         }
 
         /** The first who is not OUT, of so many from a PLAYER on, round. */
@@ -696,6 +702,16 @@ public final class SnapHeaps {
                 }
             }
             return false;
+        }
+
+        /** A bit for each PLAYER whose top is of the KIND of another one's. */
+        int twins() {
+            int top0 = heap0.topKind();
+            int top1 = heap1.topKind();
+            int top2 = heap2.topKind();
+            int bits = top0 != NONE && top0 == top1 ? 3 : 0;
+            bits |= top0 != NONE && top0 == top2 ? 5 : 0;
+            return top1 != NONE && top1 == top2 ? bits | 6 : bits;
         }
 
         boolean firstHasLain(int player) {
@@ -1029,15 +1045,18 @@ public final class SnapHeaps {
         }
 
         int here() {
-            return signAt(pos);
+            return pos >= 0 && pos < end && pos < bytes.length ? bytes[pos] & 255 : NONE;
         }
 
         /** Goes over blanks; answers the sign that stands there then. */
         int peek() {
-            for (int i = 0; i < bytes.length && signAt(pos) == ' '; i++) {
+            for (int i = 0; i < ROOM && pos >= 0 && pos < end && pos < bytes.length; i++) {
+                if (bytes[pos] != ' ') {
+                    return bytes[pos] & 255;
+                }
                 pos++;
             }
-            return signAt(pos);
+            return NONE;
         }
 
         private int lettersHere() {
@@ -1072,9 +1091,9 @@ public final class SnapHeaps {
         }
 
         void needSign(char sign) {
-            if (!takeSign(sign)) {
-                fail(1);
-            }
+            boolean stands = peek() == sign;
+            failIf(!stands, 1, pos);
+            pos += stands ? 1 : 0;
         }
 
         /** A number from least to most; behind a FAULT the least. */
@@ -1331,6 +1350,7 @@ public final class SnapHeaps {
         private int seed;
         private int turn;
         private int pair = NONE;
+        private int twins;
         private boolean nextIsLike;
 
         Game(Table table) {
@@ -1399,6 +1419,12 @@ public final class SnapHeaps {
             return hasLast && what >= 0 && what < last.length ? last[what] : NONE;
         }
 
+        private void setLast(int what, int is) {
+            if (what >= 0 && what < last.length) {
+                last[what] = is;
+            }
+        }
+
         private int delayOf(int player) {
             return player >= 0 && player < delays.length ? delays[player] : SILENT;
         }
@@ -1422,6 +1448,7 @@ public final class SnapHeaps {
         /** What PLANS ask and what is the same for all of them; layer: who lays next. */
         void look(int layer) {
             pair = board.likeTops();
+            twins = board.twins();
             int card = layer == NONE ? NONE : board.rowOf(layer).cardAt(0);
             nextIsLike = card != NONE && (card & 1) == 1 && board.likeTopsIf(layer, card >> 1) != NONE;
         }
@@ -1442,7 +1469,7 @@ public final class SnapHeaps {
                 case Plan.ALIKE:
                     return pair != NONE;
                 case Plan.MINE:
-                    return board.isOtherTop(player, top);
+                    return (twins >> player & 1) == 1;
                 case Plan.TOP:
                     return top == arg;
                 case Plan.NEAR:
@@ -1538,12 +1565,12 @@ public final class SnapHeaps {
                 addTally(first * KINDS_OF_CALLS + FALSE_CALL, 1);
                 payForFalse(first);
             }
-            last[0] = wins ? first : NONE;
-            last[1] = first;
-            last[2] = first == NONE ? 0 : least;
-            last[3] = inTime;
-            last[4] = gained;
             hasLast = true;
+            setLast(0, wins ? first : NONE);
+            setLast(1, first);
+            setLast(2, first == NONE ? 0 : least);
+            setLast(3, inTime);
+            setLast(4, gained);
         }
 
         private int kindOfWin(int player, int delay, int card) {
