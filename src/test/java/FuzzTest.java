@@ -50,6 +50,26 @@ public final class FuzzTest {
         return near(0, Math.max(0, both.asked("told", 0) - 1));
     }
 
+    private static final String[] FACE = {"table1", "plan2", "guess2", "book1", "fault0", "told1", "player2", "row2",
+        "heap2", "pool1", "lain2", "alike0", "would2", "law2", "play1", "undo1", "latest1", "calls2", "won1", "ends1",
+        "where1", "chance3", "waits4", "ahead4", "moments3", "rests2", "remember3", "odds3", "lot3", "film5", "laws2",
+        "right0", "entry2", "status1", "count1"};
+    private static final int[] WILD = {Integer.MIN_VALUE, -1000000, -2, -1, 0, 0, 0, 1, 1, 1, 2, 2, 3, 4, 12, 13, 20, 21,
+        60, 99, 100, 600, 999, 1000, 65536, Integer.MAX_VALUE - 1, Integer.MAX_VALUE};
+
+    /** Any calls with any numbers. */
+    private void callWildly() {
+        for (int i = 0; i < 30; i++) {
+            String method = FACE[lot.nextInt(FACE.length)];
+            int last = method.length() - 1;
+            int[] args = new int[method.charAt(last) - '0'];
+            for (int k = 0; k < args.length; k++) {
+                args[k] = WILD[lot.nextInt(WILD.length)];
+            }
+            both.act(method.substring(0, last), args);
+        }
+    }
+
     private void act(int i) {
         boolean bare = both.asked("told", 0) == 0 && lot.nextInt(3) > 0;
         int which = i == 0 || bare ? 0 : lot.nextInt(100);
@@ -77,6 +97,8 @@ public final class FuzzTest {
             both.act("restore");
         } else if (which < 71) {
             both.act("feed", lot.nextInt(), lot.nextInt(), lot.nextInt(), lot.nextInt(), lot.nextInt());
+        } else if (which == 99) {
+            callWildly();
         } else {
             ask(which - 71);
         }
