@@ -731,7 +731,7 @@ public final class SnapHeaps {
             if (card != NONE) {
                 heapOf(player).put(card | 1);
             }
-            next = player + 1 >= players ? 0 : player + 1;
+            next = player + 1;
             return card;
         }
 
@@ -784,17 +784,25 @@ public final class SnapHeaps {
             for (int i = 0; i < STATE_LONGS; i++) {
                 into[at + i] = 0;
             }
-            long sizes = 0;
-            int many = 0;
+            long sizes = (long) (whose() + 1) << 42;
+            long word = 0;
+            int inWord = 0;
+            int slot = 0;
             for (int i = 0; i < PILES; i++) {
                 Pile pile = pileOf(i);
                 sizes |= (long) pile.size << (6 * i);
-                for (int k = 0; k < pile.size && many < MOST_CARDS; k++) {
-                    into[at + many / CARDS_A_LONG] |= (long) pile.cardAt(k) << (5 * (many % CARDS_A_LONG));
-                    many++;
+                for (int k = 0; k < pile.size && k < pile.cards.length && slot < 5; k++) {
+                    word |= (long) pile.cards[k] << (5 * inWord);
+                    into[at + slot] = word;
+                    inWord++;
+                    if (inWord == CARDS_A_LONG) {
+                        word = 0;
+                        inWord = 0;
+                        slot++;
+                    }
                 }
             }
-            into[at + 5] = sizes | (long) (whose() + 1) << 42;
+            into[at + 5] = sizes;
         }
 
         void unpack(long[] from, int at) {
@@ -1102,7 +1110,7 @@ public final class SnapHeaps {
                 return least;
             }
             if (!isDigit(peek())) {
-                fail(1);
+                failIf(true, 1, pos);
                 return least;
             }
             int at = pos;
@@ -1727,13 +1735,11 @@ public final class SnapHeaps {
             return i >= 0 && i < boards.length ? boards[i] : null;
         }
 
-        private boolean start(Board from) {
+        private void start(Board from) {
             Board first = boardAt(0);
-            if (first == null) {
-                return false;
+            if (first != null) {
+                first.become(from);
             }
-            first.become(from);
-            return true;
         }
 
         int likeTurn(Board from, int i) {

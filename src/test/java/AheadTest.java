@@ -3,6 +3,8 @@ public final class AheadTest {
     public static void main(String[] args) {
         endsOver();
         endsRound();
+        endsRoundOfThree();
+        endsRoundAtTheLast();
         endsRoundByTurns();
         endsRoundDrawn();
         endsTooLong();
@@ -45,6 +47,26 @@ public final class AheadTest {
         Check.row("two cards against three", Ask.ends(x), -1, 18, 2, 12);
         x = on("player 1 1 0 0;player 1 1 0 1;row 0 ab;row 1 cd;open 0 2;open 1 2;");
         Check.row("open from the start: behind TURN 6 as behind TURN 2", Ask.ends(x), -1, 6, 2, 4);
+    }
+
+    private static void endsRoundOfThree() {
+        SnapHeaps x = on("player 1 1 0 0;player 1 1 0 1;player 1 1 0 2;row 0 a;row 1 b;row 2 c;");
+        Check.row("an odd number of turns", Ask.ends(x), -1, 6, 2, 3);
+        Texts.guess(x, 2, "turn 7 1 and alike");
+        Check.row("by 7", Ask.ends(x), -1, 24, 2, 21);
+    }
+
+    /** 30 cards each: behind 60 TURNS all have lain open; 60 and 49 leave the same again 2,940 TURNS later. */
+    private static void endsRoundAtTheLast() {
+        String cards = "abcdefghijklmno".repeat(2);
+        SnapHeaps x = on("player 1 1 9 0;player 1 1 9 1;row 0 " + cards + ";row 1 " + cards + ";");
+        Texts.plan(x, 0, "row<0 and turn 49 0");
+        Texts.plan(x, 1, "row<0");
+        Check.row("at the very end it is round", Ask.ends(x), -1, 3000, 2, 2940);
+        x = on("player 1 1 9 0;player 1 1 9 1;row 0 " + cards + ";row 1 " + cards.substring(1) + ";");
+        Texts.plan(x, 0, "row<0 and turn 49 0");
+        Texts.plan(x, 1, "row<0");
+        Check.due("30 and 29: it would be later", 0, x.ends(2));
     }
 
     private static void endsRoundByTurns() {

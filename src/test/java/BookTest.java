@@ -8,6 +8,7 @@ public final class BookTest {
         right();
         rightAndUndone();
         rightAndImages();
+        imagesKeepWhoWon();
         lateTurns();
         Check.end("BookTest");
     }
@@ -151,6 +152,21 @@ public final class BookTest {
         Check.due("the second has not gone by", 1, x.right());
         x.play(2);
         Check.due("again", 2, x.right());
+    }
+
+    private static void imagesKeepWhoWon() {
+        SnapHeaps x = two();
+        x.play(2);
+        x.image();
+        x.undo(1);
+        Texts.guess(x, 0, "turn 60 1");
+        x.play(1);
+        Texts.book(x, "1 0;");
+        Check.due("now 0 has won", 1, x.right());
+        x.restore();
+        Check.due("in the image he had not", 0, x.right());
+        Texts.book(x, "1 1;");
+        Check.due("but 1", 1, x.right());
     }
 
     private static void lateTurns() {

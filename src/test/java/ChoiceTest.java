@@ -3,6 +3,7 @@ public final class ChoiceTest {
     public static void main(String[] args) {
         rememberOne();
         rememberWhich();
+        rememberLeastBits();
         rememberByPoolLaw();
         rememberOut();
         oddsOfTwo();
@@ -46,6 +47,15 @@ public final class ChoiceTest {
         remember(x, 0, 2, 7 + 2 + 1, 1 << 3 | 1 << 5);
         remember(x, 0, 4, 7 + 2 + 1, 1 << 3 | 1 << 5);
         remember(x, 1, 0, 7 - 2 - 1, 0);
+    }
+
+    private static void rememberLeastBits() {
+        SnapHeaps x = on("player 1 1 9 0;player 1 1 9 1;row 0 cc;row 1 c;");
+        // a TURN won early is lost again: none is as good, and has less bits
+        remember(x, 1, 1, 0, 0);
+        x = on("player 1 1 9 0;player 1 1 9 1;row 0 babb;row 1 aa;");
+        // 4 and 1,024 would be as good
+        remember(x, 1, 2, 5, 1024);
     }
 
     private static void rememberByPoolLaw() {

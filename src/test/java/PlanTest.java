@@ -24,7 +24,7 @@ public final class PlanTest {
 
     private static void forms() {
         SnapHeaps x = two();
-        String[] good = {"alike", " alike ", "mine", "know", "top a", "top o", "near c", "heap<0", "heap>60",
+        String[] good = {"alike", " alike ", "mine", "know", "top a", "top o", "near c", "heap<0", "heap>60", "heap<60", "row<60", "row>60", "pool>60",
             "heap  <  3", "row<3", "row > 3", "pool>0", "turn 1 0", "turn 60 59", "turn3 1", "not alike",
             "not not mine", "[alike]", " [ alike ] ", "alike or mine", "alike and mine or know and top b",
             "heap<3and mine", "[alike]or[mine]", "not[alike]", "turn 00000000000000000000060 000000000000059",
@@ -50,7 +50,7 @@ public final class PlanTest {
         String[] cant = {"0:", "3:   ", "6:alike mine", "9:alike and", "0:and", "6:[alike", "5:alike]", "1:[]",
             "3:top", "4:top p", "4:top ab", "4:top A", "4:top 1", "0:topa", "6:top a b", "4:near", "5:near pa",
             "5:heap 3", "5:heap = 3", "5:pool < 3", "5:heap<", "5:heap<-1", "4:heap", "6:turn 5", "4:turn",
-            "0:alikes", "0:notalike", "3:not", "0:Alike", "5:alike;", "9:alike or or", "5:know andalike",
+            "0:alikes", "0:alikez", "0:alikea", "0:notalike", "3:not", "0:Alike", "5:alike;", "9:alike or or", "5:know andalike",
             "6:alike \talike", "5:alike\n", "8:row > 3 4", "8:alike or", "7:mine or]", "7:[alike alike]"};
         for (String row : cant) {
             int colon = row.indexOf(':');

@@ -163,6 +163,14 @@ public final class TableTest {
         fault(x, TWO + TWO, 3, 45);
         fault(x, TWO + "moment 1;".repeat(12) + " moment 1;", 3, 139);
         fault(x, TWO + "tie 1;".repeat(38) + "tie 1;", 3, 258);
+        String full = TWO + "row 0 a;" + "tie 1;".repeat(37);
+        String[] more = {"tie 1;", "row 0 b;", "pace 0 1;", "open 0 1;", "false 1;", "pool 1;", "moment 1;",
+            "player 1 1 1 1;"};
+        for (String one : more) {
+            Check.due("40 clauses", one.startsWith("player") ? 3 : 2, Texts.table(x, full.replaceFirst("tie 1;", one)));
+            fault(x, full + one, 3, 260);
+            fault(x, full + "  " + one.substring(0, one.indexOf(' ')), 3, 262);
+        }
         fault(x, TWO + "row 0 " + "abcde".repeat(12) + "f;", 3, 96);
         fault(x, TWO + "row 0 " + "abcde".repeat(11) + ";row 1 abcdef;", 3, 103);
     }
