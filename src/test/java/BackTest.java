@@ -39,44 +39,50 @@ public final class BackTest {
         return all.toString();
     }
 
-    private static void undoing() {
+    /** So many TURNS of a new object. */
+    private static SnapHeaps behind(int turns) {
         SnapHeaps x = on();
-        String[] states = new String[40];
-        int turns = 0;
-        states[0] = state(x);
-        while (turns < 39 && x.play(1) == 1) {
-            turns++;
-            states[turns] = state(x);
+        for (int t = 0; t < turns; t++) {
+            Check.due("one turn", 1, x.play(1));
         }
+        return x;
+    }
+
+    private static void undoing() {
+        SnapHeaps all = on();
+        int turns = all.play(39);
         Check.holds("a game of some turns", turns > 6);
-        Check.due("turns that can be undone", turns, x.count(3));
-        for (int t = turns - 1; t >= 0; t--) {
-            Check.due("undo one", 1, x.undo(1));
-            Check.text("as it was behind " + t, states[t], state(x));
+        Check.due("turns that can be undone", turns, all.count(3));
+        String end = state(all);
+        for (int t = 0; t < turns; t++) {
+            String due = state(behind(t));
+            SnapHeaps x = behind(turns);
+            Check.due("undo many", turns - t, x.undo(turns - t));
+            Check.text("as it was behind " + t, due, state(x));
+            SnapHeaps y = behind(turns);
+            for (int i = turns; i > t; i--) {
+                Check.due("undo one", 1, y.undo(1));
+            }
+            Check.text("as it was behind " + t + ", one by one", due, state(y));
+            Check.due("left", t, y.count(3));
+            Check.due("once more", turns - t, y.play(turns - t));
+            Check.text("the same again", end, state(y));
         }
-        Check.due("no more", 0, x.undo(1));
-        Check.due("all once more", turns, x.play(turns));
-        Check.text("the same again", states[turns], state(x));
-        Check.due("three", 3, x.undo(3));
-        Check.text("as it was", states[turns - 3], state(x));
-        Check.due("more than there are", turns - 3, x.undo(999));
-        Check.text("as it was at first", states[0], state(x));
-        Check.due("none is left", 0, x.count(3));
+        Check.due("more than there are", turns, all.undo(999));
+        Check.text("as it was at first", state(on()), state(all));
+        Check.due("none is left", 0, all.count(3));
+        Check.due("no more", 0, all.undo(1));
     }
 
     private static void undoingManyTimes() {
-        SnapHeaps x = on();
-        x.play(3);
-        String three = state(x);
-        x.play(1);
-        String four = state(x);
+        SnapHeaps x = behind(4);
         for (int i = 0; i < 100; i++) {
             x.play(2);
             Check.due("two", 2, x.undo(2));
-            Check.text("four", four, state(x));
         }
+        Check.text("four", state(behind(4)), state(x));
         x.undo(1);
-        Check.text("three", three, state(x));
+        Check.text("three", state(behind(3)), state(x));
         Check.due("three can be undone", 3, x.count(3));
     }
 
@@ -173,21 +179,30 @@ public final class BackTest {
         Check.due("two", 2, x.undo(3));
     }
 
-    private static void undoneSeeds() {
+    private static SnapHeaps drawn() {
         SnapHeaps x = new SnapHeaps();
         Texts.table(x, "player 1 1 0 0;player 1 1 0 1;player 1 1 0 2;row 0 aaaaab;row 1 abaaab;row 2 aabaab;");
         x.draws(123);
-        String[] states = new String[31];
-        int turns = 0;
-        states[0] = state(x);
-        while (turns < 30 && x.play(1) == 1) {
-            turns++;
-            states[turns] = state(x);
+        return x;
+    }
+
+    private static void undoneSeeds() {
+        SnapHeaps x = drawn();
+        int turns = x.play(30);
+        String end = state(x);
+        Check.holds("a game of some turns", turns > 6);
+        for (int t = 0; t < turns; t++) {
+            SnapHeaps due = drawn();
+            for (int i = 0; i < t; i++) {
+                due.play(1);
+            }
+            SnapHeaps y = drawn();
+            y.play(turns);
+            y.undo(turns - t);
+            Check.text("behind " + t, state(due), state(y));
+            y.play(turns - t);
+            Check.text("drawn alike once more", end, state(y));
         }
-        x.undo(turns - 2);
-        Check.text("two turns", states[2], state(x));
-        x.play(turns - 2);
-        Check.text("drawn alike once more", states[turns], state(x));
     }
 
     private static void latest() {
@@ -216,15 +231,15 @@ public final class BackTest {
     }
 
     private static void images() {
+        String zero = state(on());
+        String two = state(behind(2));
+        String four = state(behind(4));
         SnapHeaps x = on();
         Check.due("none", -1, x.restore());
-        String zero = state(x);
         Check.due("one", 1, x.image());
         x.play(2);
-        String two = state(x);
         Check.due("two", 2, x.image());
         x.play(2);
-        String four = state(x);
         Check.due("three", 3, x.image());
         x.play(2);
         Check.due("there are 3", -1, x.image());
@@ -240,7 +255,7 @@ public final class BackTest {
         Check.due("none is left", 0, x.restore());
         Check.text("no turns", zero, state(x));
         Check.due("none", -1, x.restore());
-        Check.text("nothing is done", zero, state(x));
+        Check.due("nothing is done", 0, x.told(2));
     }
 
     private static void imagesKeepAll() {

@@ -2,8 +2,9 @@ import java.util.Random;
 
 /** Runs of calls by lot, the same ones each time: the class against the Model. */
 public final class FuzzTest {
-    private static final int RUNS = 260;
-    private static final int ACTS = 70;
+    private static final int RUNS = 2000;
+    /** What the comparison at the end, and one act more, may take of an object's 512 calls. */
+    private static final int KEPT = 250 + 100;
 
     private final Random lot;
     private final Both both;
@@ -29,11 +30,14 @@ public final class FuzzTest {
     }
 
     private void go() {
-        both.compare();
-        for (int i = 0; i < ACTS && !both.parted; i++) {
+        int peeks = lot.nextInt(3);
+        for (int i = 0; both.callsLeft() > KEPT && !both.parted; i++) {
             act(i);
-            both.compare();
+            for (int k = 0; k < peeks; k++) {
+                both.peek(lot.nextInt(13), lot.nextInt(lot.nextInt(4) == 0 ? 60 : 12));
+            }
         }
+        both.compare();
     }
 
     private int upTo(int most) {

@@ -1,12 +1,15 @@
 import java.lang.reflect.InvocationTargetException;
 import java.lang.reflect.Method;
 import java.lang.reflect.Modifier;
+import java.util.Arrays;
 import java.util.HashMap;
 import java.util.Map;
 
 /** One SnapHeaps and one Model that are called alike; tells where they answer otherwise. */
 final class Both {
     static int wrong;
+
+    private static final int MOST_CALLS = 512;
 
     private static final Map<String, Method> REAL = methods(SnapHeaps.class);
     private static final Map<String, Method> MODEL = methods(Model.class);
@@ -15,6 +18,7 @@ final class Both {
     private final Model model = new Model();
     private final StringBuilder story = new StringBuilder();
     private final String name;
+    private int calls;
     boolean parted;
 
     Both(String name) {
@@ -43,8 +47,17 @@ final class Both {
         }
     }
 
+    /** What an object answers behind its 512th call is free. */
+    int callsLeft() {
+        return MOST_CALLS - calls;
+    }
+
     /** Calls both; answers what the Model did. */
     String call(String method, int... args) {
+        calls++;
+        if (calls > MOST_CALLS) {
+            throw new IllegalStateException("a test with more than 512 calls of one object");
+        }
         Object[] boxed = new Object[args.length];
         StringBuilder told = new StringBuilder(method).append('(');
         for (int i = 0; i < args.length; i++) {
@@ -91,23 +104,68 @@ final class Both {
         return model.winnerOf(turn);
     }
 
-    /** All that can be asked for cheaply. */
+    /** One thing that can be asked for cheaply, the n-th of many kinds. */
+    void peek(int n, int i) {
+        int p = i % 3;
+        switch (n % 13) {
+            case 0:
+                call("told", i % 9);
+                break;
+            case 1:
+                call("row", p, i / 3);
+                break;
+            case 2:
+                call("heap", p, i / 3);
+                break;
+            case 3:
+                call("lain", p, i / 3);
+                break;
+            case 4:
+                call("pool", i);
+                break;
+            case 5:
+                call("player", p, i % 8);
+                break;
+            case 6:
+                call("calls", p, i % 6);
+                break;
+            case 7:
+                call("latest", i % 5);
+                break;
+            case 8:
+                call("would", p, i & 1);
+                break;
+            case 9:
+                call("right");
+                break;
+            case 10:
+                call("count", i % 4);
+                break;
+            case 11:
+                call("won", p);
+                break;
+            default:
+                call("alike");
+        }
+    }
+
+    /** All that can be asked for cheaply: at most 250 calls. */
     void compare() {
-        for (int i = -1; i <= 9; i++) {
+        for (int i = 0; i <= 8; i++) {
             call("told", i);
         }
         call("alike");
         call("fault");
         call("right");
-        for (int i = -1; i <= 5; i++) {
+        for (int i = 0; i <= 4; i++) {
             call("latest", i);
             call("count", i);
-            call("status", i);
         }
-        for (int i = -1; i <= 60; i++) {
-            call("pool", i);
-        }
-        for (int i = -1; i <= 12; i++) {
+        call("status", 0);
+        call("status", 1);
+        comparePile("pool");
+        int lines = asked("count", 2);
+        for (int i = 0; i <= lines; i++) {
             call("entry", i, 0);
             call("entry", i, 1);
         }
@@ -117,16 +175,24 @@ final class Both {
         }
     }
 
+    private void comparePile(String pile, int... player) {
+        int[] args = Arrays.copyOf(player, player.length + 1);
+        for (int i = 0; i <= 60; i++) {
+            args[player.length] = i;
+            if (asked(pile, args) == SnapHeaps.NONE) {
+                return;
+            }
+        }
+    }
+
     private void compareMan(int p) {
-        for (int i = -1; i <= 8; i++) {
+        for (int i = 0; i <= 7; i++) {
             call("player", p, i);
         }
-        for (int i = -1; i <= 60; i++) {
-            call("row", p, i);
-            call("heap", p, i);
-            call("lain", p, i);
-        }
-        for (int i = -1; i <= 6; i++) {
+        comparePile("row", p);
+        comparePile("heap", p);
+        comparePile("lain", p);
+        for (int i = 0; i <= 5; i++) {
             call("calls", p, i);
         }
         call("won", p);
