@@ -30,6 +30,8 @@ public final class AheadEdgesTest {
         lotWraps();
         films();
         lawsOfNine();
+        oddsByPoolLaw();
+        roundBehindALargerTable();
         Check.end("AheadEdgesTest");
     }
 
@@ -562,5 +564,36 @@ public final class AheadEdgesTest {
         }
         Check.due("false stays", 0, x.told(5));
         Check.due("tie stays", 0, x.told(6));
+    }
+
+    /** A WIN takes the POOL by its LAW: b, or n, is in it; n and n are ALIKE behind TURN 3. */
+    private static void oddsByPoolLaw() {
+        String[] kinds = {"b", "n"};
+        for (String kind : kinds) {
+            for (int law = 0; law <= 2; law++) {
+                SnapHeaps x = quiet("player 2 1 9 0;player 3 1 9 1;row 0 an;row 1 " + kind + "enffff;false 1;pool " + law + ";");
+                Texts.guess(x, 1, "turn 60 0");
+                x.play(1);
+                Check.text("pool", kind, Ask.pool(x));
+                boolean all = law == 2 || law == 1 && kind.equals("n");
+                // 0 has 4 or 5 then, against 4
+                odds(x, 0, 3, all ? 2 : 0, all ? 5 : 1);
+                odds(x, 1, 3, 3, 5);
+                remember(x, 0, 1, all ? 5 : 4, 4);
+            }
+        }
+    }
+
+    /** What an earlier, larger GAME left behind does not count. */
+    private static void roundBehindALargerTable() {
+        String cards = "abcdefghijklmno";
+        SnapHeaps x = quiet(TWO + "row 0 " + cards + cards + ";row 1 " + cards + cards + ";open 0 30;open 1 30;");
+        ends(x, "60 cards, all open: behind 62 as behind two", -1, 62, 2, 60);
+        Texts.table(x, TWO + "row 0 a;row 1 b;");
+        ends(x, "two cards", -1, 4, 2, 2);
+        SnapHeaps y = quiet(TWO + "row 0 " + cards + cards + ";row 1 " + cards + cards + ";");
+        ends(y, "60 cards, none open", -1, 120, 2, 60);
+        SnapHeaps z = quiet(TWO + "row 0 " + "o".repeat(30) + ";row 1 " + "n".repeat(30) + ";");
+        ends(z, "60 cards of two kinds", -1, 120, 2, 60);
     }
 }

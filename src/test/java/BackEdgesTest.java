@@ -24,6 +24,9 @@ public final class BackEdgesTest {
         tablesTakeImages();
         refusalsAreKept();
         countsOfAll();
+        tablesTakeWhatStops();
+        undoOf60Cards();
+        imagesOfLateTurns();
         Check.end("BackEdgesTest");
     }
 
@@ -397,5 +400,65 @@ public final class BackEdgesTest {
         Check.due("they stay", 600, x.count(1));
         Check.due("a fault", -9, x.table(600));
         Check.due("none", 0, x.count(1));
+    }
+
+    private static void tablesTakeWhatStops() {
+        for (int i = 0; i < STOPS.length; i++) {
+            SnapHeaps x = behind(SOON, 3);
+            STOPS[i].go(x);
+            x.play(1);
+            Check.due("a table", 2, Texts.table(x, SOON));
+            Check.due("none to undo", 0, x.count(3));
+            Check.due("none", 0, x.undo(1));
+            x.play(2);
+            Check.due("two", 2, x.count(3));
+            Check.due("two", 2, x.undo(999));
+            Check.text("as at first", "abc/ abc/ ", Ask.board(x));
+        }
+    }
+
+    /** 60 cards of all KINDS, open and not, in ROWS, heaps and the POOL, are as they were. */
+    private static void undoOf60Cards() {
+        String kinds = "abcdefghijklmno";
+        String table = TWO + "player 1 1 0 2;row 0 " + kinds + "onmlk;row 1 " + "onmlkjihgfedcba" + "edcba;row 2 " + "hgfedcbaijklmno"
+            + "nonon;open 0 7;open 1 13;open 2 20;false 1;tie 2;pool 1;";
+        int[] turns = {1, 17, 33, 60};
+        for (int turn : turns) {
+            SnapHeaps x = on(table);
+            Texts.guess(x, 1, "turn 5 3 or turn 7 1");
+            Check.due("turns", turn, x.play(turn));
+            String due = Ask.board(x);
+            SnapHeaps y = on(table);
+            Texts.guess(y, 1, "turn 5 3 or turn 7 1");
+            y.play(turn);
+            int more = y.play(40);
+            Check.due("undone", more, y.undo(more));
+            Check.text("60 cards behind " + turn, due, Ask.board(y));
+            Check.due("all undone", turn, y.undo(turn));
+            Check.text("60 cards at first", Ask.board(on(table)), Ask.board(y));
+        }
+    }
+
+    /** An IMAGE keeps who won, up to the last TURN that a BOOK can tell of. */
+    private static void imagesOfLateTurns() {
+        SnapHeaps x = on(SOON);
+        Texts.plan(x, 0, "alike and turn 60 39 and turn 59 28 and turn 7 3");
+        Texts.plan(x, 1, "row<0");
+        for (int i = 0; i < 10; i++) {
+            x.play(999);
+        }
+        x.play(10);
+        Check.due("0 wins in TURN 9,999", 0, x.latest(0));
+        Texts.book(x, "9999 0;");
+        Check.due("right", 1, x.right());
+        x.image();
+        x.play(5);
+        Check.due("still right", 1, x.right());
+        x.restore();
+        Check.due("right in the image", 1, x.right());
+        x.play(1);
+        Check.due("nobody wins behind it", -1, x.latest(0));
+        Check.due("one can be undone", 1, x.undo(999));
+        Check.due("right all the same", 1, x.right());
     }
 }

@@ -28,6 +28,8 @@ public final class TextEdgesTest {
         theFirstFromTheLeft();
         bytesBeyondN();
         bytesOfANumber();
+        wordsAreWhole();
+        aTableBehindALargerOne();
         Check.end("TextEdgesTest");
     }
 
@@ -542,5 +544,66 @@ public final class TextEdgesTest {
         }
         Check.due("a text makes room", 0, x.book(0));
         Check.due("for twenty", 20, x.feed(0, 0, 0, 0, 0));
+    }
+
+    /** A word is one only with all its letters, and as many as stand there. */
+    private static void wordsAreWhole() {
+        String[] clauses = {"player 1 1 1 1;", "row 0 a;", "pace 0 1;", "false 1;", "tie 1;", "pool 1;", "open 0 0;", "moment 1;"};
+        String[] facts = {"alike", "mine", "know", "top a", "near a", "heap<1", "row<1", "pool>1", "turn 1 0", "not mine"};
+        for (String clause : clauses) {
+            wordIsWhole("table", TWO, clause);
+        }
+        for (String fact : facts) {
+            wordIsWhole("plan", "", fact);
+            wordIsWhole("guess", "mine or ", fact);
+            wordIsWhole("plan", "[know and ", fact);
+        }
+        wordIsWhole("plan", "mine ", "or mine");
+        wordIsWhole("plan", "mine ", "and mine");
+    }
+
+    private static void wordIsWhole(String kind, String begin, String text) {
+        int length = 0;
+        while (length < text.length() && Character.isLetter(text.charAt(length))) {
+            length++;
+        }
+        for (int i = 0; i < length; i++) {
+            char other = text.charAt(i) == 'x' ? 'y' : 'x';
+            fault(kind, begin + text.substring(0, i) + other + text.substring(i + 1), 1, begin.length());
+            fault(kind, begin + text.substring(0, i) + Character.toUpperCase(text.charAt(i)) + text.substring(i + 1), 1,
+                begin.length());
+        }
+        fault(kind, begin + text.substring(0, length) + "s" + text.substring(length), 1, begin.length());
+        fault(kind, begin + "s" + text, 1, begin.length());
+    }
+
+    /** All of an earlier TABLE is gone: a third PLAYER, cards, MOMENTS, what goes round. */
+    private static void aTableBehindALargerOne() {
+        String large = "player 9 60 9 2;player 9 60 9 2;player 9 60 0 2;row 0 " + CARDS + CARDS.substring(0, 5) + ";row 1 " + CARDS
+            + CARDS.substring(0, 5) + ";row 2 " + CARDS + CARDS.substring(0, 5) + ";open 2 20;pace 2 9;pace 1 9;"
+            + "moment 9;".repeat(12) + "false 2;tie 2;pool 2;";
+        SnapHeaps x = new SnapHeaps();
+        Check.due("three", 3, Texts.table(x, large));
+        Texts.plan(x, 2, "turn 7 0");
+        Texts.guess(x, 2, "turn 11 0");
+        x.play(40);
+        x.ends(1);
+        x.law(1, 0);
+        x.play(3);
+        Check.due("two", 2, Texts.table(x, "player 1 1 0 0;player 2 1 0 1;row 0 aab;row 1 ab;moment 1;"));
+        SnapHeaps y = new SnapHeaps();
+        Texts.table(y, "player 1 1 0 0;player 2 1 0 1;row 0 aab;row 1 ab;moment 1;");
+        for (int t = 0; t < 3; t++) {
+            Check.text("as on a new object", Whole.of(y), Whole.of(x));
+            for (int n = 0; n <= 12; n += 3) {
+                Check.due("odds, above", y.odds(1, n, 0), x.odds(1, n, 0));
+                Check.due("odds, below", y.odds(1, n, 1), x.odds(1, n, 1));
+            }
+            x.play(1);
+            y.play(1);
+        }
+        Check.noPlayer(x, "player 2", () -> x.row(2, 0));
+        Check.due("a small one", 2, Texts.table(x, "player 1 1 0 0;player 1 1 0 1;row 0 a;row 1 b;"));
+        Check.row("goes round", Ask.ends(x), -1, 4, 2, 2);
     }
 }

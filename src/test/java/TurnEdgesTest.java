@@ -30,6 +30,14 @@ public final class TurnEdgesTest {
         playsToTheEnd();
         latestOfEach();
         lawsOfEach();
+        knowOfEach();
+        knowIfItIsCovered();
+        nearOfEach();
+        mineOfEach();
+        alikeOfEachPair();
+        tiedOfEachPair();
+        guessesBehindAWin();
+        knowBehindTurningOver();
         Check.end("TurnEdgesTest");
     }
 
@@ -654,5 +662,152 @@ public final class TurnEdgesTest {
                 }
             }
         }
+    }
+
+    /** A GAME of three whose first cards are told, then their second ones; so many TURNS of it. */
+    private static SnapHeaps three(char[] first, char[] second, boolean open, int turns) {
+        StringBuilder table = new StringBuilder("player 1 1 9 0;player 1 60 9 1;player 1 0 9 2;");
+        for (int p = 0; p < 3; p++) {
+            table.append("row ").append(p).append(' ').append(first[p]).append(second[p]).append(open ? ";open " + p + " 2;" : ";");
+        }
+        SnapHeaps x = quiet(table.toString());
+        x.play(turns);
+        return x;
+    }
+
+    private static void holds(SnapHeaps x, String what, String fact, boolean... want) {
+        for (int p = 0; p < want.length; p++) {
+            Check.due("guess " + fact, 1, Texts.guess(x, p, fact));
+            Check.due(what + ", " + fact + " of " + p, want[p] ? 1 : 0, x.would(p, 1) ? 1 : 0);
+        }
+    }
+
+    /** "if the next TURN were done, two tops would be alike; and he remembers that card": of each who lays, each other top. */
+    private static void knowOfEach() {
+        for (int layer = 0; layer < 3; layer++) {
+            for (int other = 0; other < 3; other++) {
+                char[] first = {'a', 'f', 'o'};
+                char[] second = {'b', 'g', 'n'};
+                second[layer] = other < layer ? second[other] : first[other];
+                SnapHeaps x = three(first, second, true, 3 + layer);
+                String what = layer + " lays a card like " + other + "'s";
+                Check.due(what, -1, x.alike());
+                holds(x, what, "know", layer != other, layer != other, false);
+                x = three(first, second, false, 3 + layer);
+                holds(x, what + ", not open", "know", false, false, false);
+            }
+        }
+    }
+
+    private static void knowIfItIsCovered() {
+        int[][] pairs = {{0, 1}, {0, 2}, {1, 2}};
+        for (int[] pair : pairs) {
+            for (int layer = 0; layer <= pair[0]; layer++) {
+                char[] first = {'a', 'f', 'o'};
+                char[] second = {'b', 'g', 'n'};
+                first[pair[1]] = first[pair[0]];
+                SnapHeaps x = three(first, second, true, 3 + layer);
+                String what = pair[0] + " and " + pair[1] + " are alike, " + layer + " lays";
+                Check.due(what, 10 * pair[0] + pair[1], x.alike());
+                boolean stays = layer != pair[0];
+                holds(x, what, "know", stays, stays, false);
+            }
+        }
+        SnapHeaps x = three(new char[] {'a', 'a', 'a'}, new char[] {'b', 'c', 'd'}, true, 3);
+        holds(x, "of three alike two are left", "know", true, true, false);
+        x.play(1);
+        holds(x, "of two alike one is left", "know", false, false, false);
+    }
+
+    private static void nearOfEach() {
+        for (char k = 'a'; k <= 'o'; k++) {
+            for (int open = 0; open <= 1; open++) {
+                SnapHeaps x = quiet("player 1 1 9 0;player 1 60 9 1;player 1 0 9 2;row 0 " + k + "b;row 1 " + k + "c;row 2 " + k
+                    + "d;open 0 " + open + ";open 1 " + open + ";open 2 " + open + ";");
+                holds(x, "open " + open, "near " + k, open == 1, open == 1, false);
+                holds(x, "another kind", "near " + (k == 'o' ? 'a' : (char) (k + 1)), false, false, false);
+                x.play(3);
+                holds(x, "on the heaps now", "top " + k, true, true, true);
+                holds(x, "another kind", "top " + (k == 'o' ? 'a' : (char) (k + 1)), false, false, false);
+            }
+        }
+    }
+
+    /** "two tops are, one of them his". */
+    private static void mineOfEach() {
+        int[][] pairs = {{0, 1}, {0, 2}, {1, 2}};
+        for (int[] pair : pairs) {
+            char[] first = {'a', 'f', 'o'};
+            first[pair[1]] = first[pair[0]];
+            SnapHeaps x = three(first, new char[] {'b', 'g', 'n'}, false, 3);
+            String what = pair[0] + " and " + pair[1];
+            holds(x, what, "mine", pair[0] == 0, pair[0] == 1 || pair[1] == 1, pair[1] == 2);
+            holds(x, what, "alike", true, true, true);
+        }
+        SnapHeaps x = three(new char[] {'a', 'f', 'o'}, new char[] {'b', 'g', 'n'}, false, 3);
+        holds(x, "none", "mine", false, false, false);
+        holds(x, "none", "alike", false, false, false);
+        holds(quiet("player 1 1 9 0;player 1 1 9 1;row 0 a;row 1 a;"), "no tops", "mine", false, false);
+    }
+
+    /** Both ALIKE heaps, and none else, come behind the ROW of any of three. */
+    private static void alikeOfEachPair() {
+        String[] rows = {"row 0 ab;row 1 ag;row 2 on;", "row 0 ab;row 1 fg;row 2 an;", "row 0 ab;row 1 fg;row 2 fn;"};
+        int[] turns = {1, 2, 2};
+        String[][] boards = {
+            {"bAA/ g/ on/ ", "b/ gAA/ on/ ", "b/ g/ onAA/ "},
+            {"bAA/ g/f n/ ", "b/ gAA/f n/ ", "b/ g/f nAA/ "},
+            {"bFF/a g/ n/ ", "b/a gFF/ n/ ", "b/a g/ nFF/ "}};
+        for (int i = 0; i < 3; i++) {
+            for (int who = 0; who < 3; who++) {
+                SnapHeaps x = quiet("player 1 1 9 0;player 1 1 9 1;player 1 1 9 2;" + rows[i]);
+                Texts.guess(x, who, "turn 60 " + turns[i]);
+                x.play(turns[i] + 1);
+                latest(x, rows[i] + " won by " + who, who, who, -1, 1, 2);
+                Check.text(rows[i] + " won by " + who, boards[i][who], Ask.board(x));
+            }
+        }
+    }
+
+    /** "ALIKE heaps go to the POOL (the least PLAYER's first ..)". */
+    private static void tiedOfEachPair() {
+        String[] rows = {"row 0 ka;row 1 la;row 2 mb;", "row 0 ka;row 1 lb;row 2 ma;", "row 0 kb;row 1 la;row 2 ma;"};
+        String[] boards = {"/ / b/m kala", "/ /lb / kama", "/kb / / lama"};
+        for (int i = 0; i < 3; i++) {
+            SnapHeaps x = quiet("player 1 1 9 0;player 1 1 9 1;player 1 1 9 2;tie 2;" + rows[i]);
+            int last = i == 0 ? 4 : 5;
+            Texts.guess(x, 0, "turn 60 " + last);
+            Texts.guess(x, 2, "turn 60 " + last);
+            x.play(last + 1);
+            latest(x, "tied " + rows[i], -1, -1, 0, 2, 0);
+            Check.text("tied " + rows[i], boards[i], Ask.board(x));
+        }
+    }
+
+    /** What is asked in (b) is how all stands then, not how it stood in the TURN ahead. */
+    private static void guessesBehindAWin() {
+        String[] facts = {"alike", "mine", "know"};
+        for (String fact : facts) {
+            SnapHeaps x = on("player 1 1 0 0;player 1 1 0 1;row 0 abc;row 1 abc;");
+            x.play(2);
+            latest(x, "a and a are won", 1, 1, 0, 2, 2);
+            Texts.guess(x, 0, fact);
+            Texts.guess(x, 1, fact);
+            x.play(1);
+            latest(x, "nothing is alike behind a win, " + fact, -1, -1, 0, 0, 0);
+        }
+    }
+
+    private static void knowBehindTurningOver() {
+        SnapHeaps x = quiet("player 1 1 9 0;player 1 0 9 1;row 0 ab;row 1 cad;");
+        Texts.guess(x, 0, "know");
+        Texts.guess(x, 1, "know");
+        x.play(4);
+        Check.text("no row", "/ab d/ca ", Ask.board(x));
+        latest(x, "nobody knows", -1, -1, 0, 0, 0);
+        x.play(1);
+        latest(x, "his heap is turned over, and a comes first", 0, 0, -1, 1, 3);
+        calls(x, "remembered", 0, 0, 0, 1, 0, 0, 0);
+        Check.text("won", "BACA/ d/ ", Ask.board(x));
     }
 }
