@@ -400,7 +400,7 @@ public final class AheadEdgesTest {
 
     /** All cards of one KIND: who has more behind n TURNS, counted by all ways; the third, if there is one, is OUT. */
     private static void oddsOfTwelve() {
-        int[][] quick = {{9, 8, 0}, {1, 9, 0}, {9, 1, 0}, {1, 1, 0}, {9, 8, 6}, {9, 9, 9}, {1, 1, 9}};
+        int[][] quick = {{9, 8, 0}, {1, 9, 0}, {9, 1, 0}, {1, 1, 0}, {9, 8, 6}, {9, 9, 9}, {1, 1, 9}, {2, 3, 1}};
         String cards = "a".repeat(12);
         for (int[] q : quick) {
             SnapHeaps x = quiet("player " + q[0] + " 0 9 0;player " + q[1] + " 0 9 1;row 0 " + cards + ";row 1 " + cards + ";"

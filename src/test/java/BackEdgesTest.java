@@ -460,5 +460,22 @@ public final class BackEdgesTest {
         Check.due("nobody wins behind it", -1, x.latest(0));
         Check.due("one can be undone", 1, x.undo(999));
         Check.due("right all the same", 1, x.right());
+        SnapHeaps y = on(SOON);
+        Texts.plan(y, 0, "alike and turn 60 39 and turn 59 28 and turn 7 3");
+        Texts.plan(y, 1, "row<0");
+        for (int i = 0; i < 10; i++) {
+            y.play(999);
+        }
+        y.play(10);
+        y.image();
+        y.undo(1);
+        Texts.guess(y, 1, "turn 60 39 and turn 59 28 and turn 7 3");
+        y.play(1);
+        Texts.book(y, "9999 1;");
+        Check.due("now 1 wins in it", 1, y.right());
+        y.restore();
+        Check.due("in the image he does not", 0, y.right());
+        Texts.book(y, "9999 0;9999 0;");
+        Check.due("but 0", 2, y.right());
     }
 }

@@ -38,6 +38,9 @@ public final class TurnEdgesTest {
         tiedOfEachPair();
         guessesBehindAWin();
         knowBehindTurningOver();
+        sizesOfNoneAndAll();
+        turnsThatLeaveOnesAndLast();
+        wouldIfItIsOver();
         Check.end("TurnEdgesTest");
     }
 
@@ -809,5 +812,79 @@ public final class TurnEdgesTest {
         latest(x, "his heap is turned over, and a comes first", 0, 0, -1, 1, 3);
         calls(x, "remembered", 0, 0, 0, 1, 0, 0, 0);
         Check.text("won", "BACA/ d/ ", Ask.board(x));
+    }
+
+    private static void would(SnapHeaps x, int player, String fact, boolean want) {
+        Check.due("plan " + fact, 1, Texts.plan(x, player, fact));
+        Check.due(fact + " of " + player, want ? 1 : 0, x.would(player, 0) ? 1 : 0);
+    }
+
+    /** "heap" "<" N, "heap" ">" N, "row" "<" N, "row" ">" N, "pool" ">" N (N 0 to 60): of 0, 59 and 60 cards. */
+    private static void sizesOfNoneAndAll() {
+        String sixty = "abcdefghijklmno".repeat(4);
+        SnapHeaps x = quiet("player 1 1 0 0;player 1 1 0 1;row 0 " + sixty + ";");
+        would(x, 0, "row>59", true);
+        would(x, 0, "row>60", false);
+        would(x, 0, "row<60", false);
+        would(x, 0, "heap>0", false);
+        would(x, 0, "heap<1", true);
+        would(x, 0, "heap<0", false);
+        would(x, 1, "row>0", false);
+        would(x, 1, "row<1", true);
+        would(x, 1, "row<0", false);
+        would(x, 1, "pool>0", false);
+        x = quiet("player 1 1 0 0;player 1 1 0 1;row 0 " + sixty.substring(1) + ";row 1 a;");
+        would(x, 0, "row<60", true);
+        would(x, 0, "row<59", false);
+        would(x, 0, "row>58", true);
+        would(x, 0, "row<0", false);
+        x.play(117);
+        would(x, 0, "heap>58", true);
+        would(x, 0, "heap>59", false);
+        would(x, 0, "heap<60", true);
+        would(x, 0, "heap<59", false);
+        would(x, 1, "heap<2", true);
+        would(x, 1, "heap<1", false);
+        x = on("player 1 1 0 2;player 1 1 0 2;row 0 " + "a".repeat(30) + ";row 1 " + "a".repeat(30) + ";tie 2;");
+        x.play(60);
+        would(x, 0, "pool>59", true);
+        would(x, 1, "pool>60", false);
+        would(x, 1, "pool>0", true);
+    }
+
+    /** "the number of the TURN leaves R by M, 1 to 60; R less than M". */
+    private static void turnsThatLeaveOnesAndLast() {
+        SnapHeaps x = quiet("player 1 1 0 0;player 1 1 0 1;row 0 a;row 1 b;");
+        int[] turns = {0, 1, 2, 57, 58, 59, 60, 61, 118, 119, 120};
+        for (int turn : turns) {
+            Texts.plan(x, 0, QUIET);
+            while (x.told(2) < turn) {
+                x.play(turn - x.told(2));
+            }
+            would(x, 0, "turn 60 59", turn % 60 == 59);
+            would(x, 0, "turn 60 0", turn % 60 == 0);
+            would(x, 0, "turn 2 1", turn % 2 == 1);
+            would(x, 0, "turn 1 0", true);
+            would(x, 0, "turn 59 58", turn % 59 == 58);
+        }
+    }
+
+    /** "nobody has a TURN": there is no next one to know of; all else holds as it stands. */
+    private static void wouldIfItIsOver() {
+        SnapHeaps x = quiet("player 1 60 0 0;player 1 60 0 1;row 0 aaa;open 0 3;");
+        Check.due("over", -1, x.told(3));
+        would(x, 0, "know", false);
+        would(x, 1, "know", false);
+        would(x, 0, "near a", true);
+        would(x, 1, "near a", false);
+        would(x, 0, "row>2", true);
+        would(x, 0, "turn 9 0", true);
+        would(x, 0, "alike or mine or top a", false);
+        x = on("player 1 60 0 0;player 1 60 0 1;row 0 a;row 1 a;");
+        x.play(2);
+        would(x, 0, "know", false);
+        would(x, 1, "know", false);
+        would(x, 1, "near a", true);
+        would(x, 0, "turn 9 2", true);
     }
 }
