@@ -12,6 +12,7 @@ public final class AheadEdgesTest {
         whereWithCalls();
         chanceOfNone();
         chanceOfTops();
+        chanceWithoutHisOwnTop();
         chanceOfSixty();
         chanceOfMemory();
         lines();
@@ -207,6 +208,23 @@ public final class AheadEdgesTest {
         chance(x, "no row: of his heap one of two", 0, 2, 1, 2);
         x.play(1);
         chance(x, "both", 0, 2, 1, 1);
+    }
+
+    /** "(of PLAYERS but him)": his cards are of his own top's KIND alone, then one of another one's, too. */
+    private static void chanceWithoutHisOwnTop() {
+        for (int p = 0; p < 3; p++) {
+            SnapHeaps x = quiet("player 1 0 9 0;player 1 0 9 1;player 1 0 9 2;row 0 aaa;row 1 bbb;row 2 ccc;");
+            x.play(3);
+            chance(x, "his own top alone, " + p, p, 0, 0, 1);
+            x = quiet("player 1 0 9 0;player 1 0 9 1;player 1 0 9 2;row 0 aab;row 1 bbc;row 2 cca;");
+            x.play(3);
+            chance(x, "his own top, another one's, " + p, p, 0, 1, 2);
+        }
+        for (int p = 0; p < 2; p++) {
+            SnapHeaps x = quiet(TWO + "row 0 aab;row 1 bba;");
+            x.play(2);
+            chance(x, "of two his own top, the other one's, " + p, p, 0, 1, 2);
+        }
     }
 
     private static void chanceOfSixty() {

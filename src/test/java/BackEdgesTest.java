@@ -9,6 +9,7 @@ public final class BackEdgesTest {
         undoOf999();
         undoInParts();
         undoFromTheEnd();
+        undoOfNoneKeepsTheLatest();
         undoBehindWhatStopsIt();
         undoUpToTheStop();
         manyCalls();
@@ -103,6 +104,22 @@ public final class BackEdgesTest {
         Check.due("won", 2, x.won(1));
         Check.due("both", 2, x.undo(999));
         Check.text("as at first", "a/ a/ ", Ask.board(x));
+    }
+
+    /** "behind an undo() that undid one": one that undid none changes nothing, though the GAME was played on for no TURN. */
+    private static void undoOfNoneKeepsTheLatest() {
+        for (int i = 0; i < STOPS.length; i++) {
+            SnapHeaps x = on(TWO + "row 0 a;row 1 a;");
+            x.play(2);
+            STOPS[i].go(x);
+            int[] latest = Ask.latest(x);
+            String board = Ask.board(x);
+            Check.due("1 won, " + i, 1, latest[0]);
+            Check.due("it is over, " + i, 0, x.play(3));
+            Check.due("none undone, " + i, 0, x.undo(3));
+            Check.row("latest, " + i, Ask.latest(x), latest);
+            Check.text("board, " + i, board, Ask.board(x));
+        }
     }
 
     private interface Call {

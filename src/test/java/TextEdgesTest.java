@@ -29,6 +29,7 @@ public final class TextEdgesTest {
         bytesBeyondN();
         bytesOfANumber();
         wordsAreWhole();
+        numbersWithoutAWord();
         aTableBehindALargerOne();
         Check.end("TextEdgesTest");
     }
@@ -353,6 +354,23 @@ public final class TextEdgesTest {
             fault("plan", word + "a", 1, 0);
             fault("plan", word + " a b", 1, at + 2);
             fault("plan", word + " a1", 1, at + 1);
+        }
+    }
+
+    /** 1 "what can't stand there": numbers and signs that would do behind a word, without one. */
+    private static void numbersWithoutAWord() {
+        String[] starts = {"", " ", "not ", "[", "[ not ", "mine and ", "mine or not "};
+        String[] bare = {"3 1", "1 0", "60 59", "0", "<5", "> 0", "b"};
+        for (String start : starts) {
+            for (String text : bare) {
+                fault("plan", start + text, 1, start.length());
+                fault("guess", start + text + " or mine", 1, start.length());
+            }
+        }
+        String[] clauses = {"1;", "0 5;", "0 abc;", "1 2 3 0;", "abc;", ";"};
+        for (String clause : clauses) {
+            fault("table", TWO + clause, 1, TWO.length());
+            fault("table", clause + TWO, 1, 0);
         }
     }
 
